@@ -748,7 +748,8 @@ public final class BasketOffers {
                 return;
             }
             if (isIn(free, position)) {
-                for (int use = list.startOf(position); use < list.startOf(position + 1); use++) {
+                int end = list.startOf(position + 1);
+                for (int use = list.startOf(position); use < end; use++) {
                     if (fits(use, free, taken)) {
                         setAt(chosen, position, use);
                         change(use, -1);
@@ -832,7 +833,8 @@ public final class BasketOffers {
             }
             int most = mostByTrying(position + 1, free & ~bitOf(position), discount, taken);
             if (isIn(free, position)) {
-                for (int use = list.startOf(position); use < list.startOf(position + 1); use++) {
+                int end = list.startOf(position + 1);
+                for (int use = list.startOf(position); use < end; use++) {
                     if (fits(use, free, taken)) {
                         change(use, -1);
                         most = Math.max(most, mostByTrying(position + 1, free & ~list.maskAt(use),

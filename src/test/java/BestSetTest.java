@@ -9,7 +9,9 @@ public final class BestSetTest {
         bundleOfAlikeKinds();
         threshold();
         thresholdsOfAGroup();
+        thresholdsInAllOrders();
         thresholdAgainstItems();
+        askedFirst();
         limits();
         groups();
         tiesOfOffers();
@@ -94,6 +96,44 @@ public final class BestSetTest {
         x.addThreshold(1, 1, 1, 3);
         best(x, 13, "-1", "87");
         Check.due("reasons", reasonsOf(x), "gugcu");
+    }
+
+    private static void thresholdsInAllOrders() {
+        for (int order = 0; order < 256; order++) {
+            BasketOffers x = basket(1, 1000);
+            int[] amounts = {order & 3, order >> 2 & 3, order >> 4 & 3, order >> 6 & 3};
+            int used = 0;
+            for (int offer = 0; offer < 4; offer++) {
+                x.addThreshold(1, 10 + amounts[offer], 1, 1);
+                used = amounts[offer] > amounts[used] ? offer : used;
+            }
+            Check.due("bestDiscount() of order " + order, x.bestDiscount(), 10 + amounts[used]);
+            for (int offer = 0; offer < 4; offer++) {
+                Check.due("uses(" + offer + ") of order " + order, x.uses(offer), offer == used ? 1 : 0);
+            }
+        }
+    }
+
+    private static void askedFirst() {
+        Check.due("bestDiscount() first", asked().bestDiscount(), 30);
+        Check.due("bestByTrying() first", asked().bestByTrying(), 30);
+        Check.due("offerOf(1) first", asked().offerOf(1), 1);
+        Check.due("uses(1) first", asked().uses(1), 1);
+        Check.due("reason(0) first", asked().reason(0), 'b');
+        Check.due("netPrice(1) first", asked().netPrice(1), 70);
+        Check.due("toPay() first", asked().toPay(), 70);
+        Check.due("sell() first", asked().sell(), 70);
+    }
+
+    /** A till at which all was asked, and then the basket and the offers were changed. */
+    private static BasketOffers asked() {
+        BasketOffers x = basket(1, 200);
+        x.addPercentage(1, 20, 2, -1);
+        Check.state(x);
+        x.put(1, 100);
+        x.addPercentage(1, 30, 2, -1);
+        x.takeOut(0);
+        return x;
     }
 
     private static void thresholdAgainstItems() {
