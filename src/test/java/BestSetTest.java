@@ -27,80 +27,80 @@ public final class BestSetTest {
     }
 
     private static void percentage() {
-        BasketOffers x = basket(1, 199, 2, 500, 1, 1);
+        BasketOffers x = Tills.basket(1, 199, 2, 500, 1, 1);
         x.addPercentage(1, 50, 9, -1);
-        best(x, 99, "0 -1 0", "100 500 1");
+        Tills.best(x, 99, "0 -1 0", "100 500 1");
         Check.due("uses(0)", x.uses(0), 2);
         Check.due("toPay()", x.toPay(), 601);
         Check.due("reason(0)", x.reason(0), 'u');
     }
 
     private static void freeItem() {
-        BasketOffers x = basket(4, 300, 4, 100, 5, 50, 4, 200, 4, 250);
+        BasketOffers x = Tills.basket(4, 300, 4, 100, 5, 50, 4, 200, 4, 250);
         x.addFreeItem(4, 3, 9, -1);
-        best(x, 200, "0 -1 -1 0 0", "219 100 50 147 184");
-        BasketOffers y = basket(4, 10, 4, 10);
+        Tills.best(x, 200, "0 -1 -1 0 0", "219 100 50 147 184");
+        BasketOffers y = Tills.basket(4, 10, 4, 10);
         y.addFreeItem(4, 3, 1, -1);
-        best(y, 0, "-1 -1", "10 10");
-        BasketOffers z = basket(4, 9, 4, 9, 4, 9, 4, 9, 4, 9);
+        Tills.best(y, 0, "-1 -1", "10 10");
+        BasketOffers z = Tills.basket(4, 9, 4, 9, 4, 9, 4, 9, 4, 9);
         z.addFreeItem(4, 5, 1, -1);
-        best(z, 9, "0 0 0 0 0", "7 7 7 7 8");
+        Tills.best(z, 9, "0 0 0 0 0", "7 7 7 7 8");
     }
 
     private static void bundle() {
-        BasketOffers x = basket(1, 100, 2, 200, 3, 300, 1, 150);
+        BasketOffers x = Tills.basket(1, 100, 2, 200, 3, 300, 1, 150);
         x.addBundle(3, 1, -1, 400, 2, -1);
-        best(x, 50, "-1 -1 0 0", "100 200 266 134");
+        Tills.best(x, 50, "-1 -1 0 0", "100 200 266 134");
         x.addBundle(1, 2, 3, 450, 2, -1);
-        best(x, 200, "-1 1 1 1", "100 138 208 104");
-        BasketOffers y = basket(1, 100, 2, 200);
+        Tills.best(x, 200, "-1 1 1 1", "100 138 208 104");
+        BasketOffers y = Tills.basket(1, 100, 2, 200);
         y.addBundle(1, 2, -1, 300, 2, -1);
-        best(y, 0, "-1 -1", "100 200");
+        Tills.best(y, 0, "-1 -1", "100 200");
         y.addBundle(1, 2, -1, 299, 2, -1);
-        best(y, 1, "1 1", "99 200");
+        Tills.best(y, 1, "1 1", "99 200");
     }
 
     private static void bundleOfAlikeKinds() {
-        BasketOffers x = basket(1, 100, 2, 100, 1, 100);
+        BasketOffers x = Tills.basket(1, 100, 2, 100, 1, 100);
         x.addBundle(1, 1, -1, 150, 2, -1);
-        best(x, 50, "0 -1 0", "75 100 75");
-        BasketOffers y = basket(1, 100, 2, 100, 2, 100);
+        Tills.best(x, 50, "0 -1 0", "75 100 75");
+        BasketOffers y = Tills.basket(1, 100, 2, 100, 2, 100);
         y.addBundle(1, 1, 2, 1, 2, -1);
-        best(y, 0, "-1 -1 -1", "100 100 100");
+        Tills.best(y, 0, "-1 -1 -1", "100 100 100");
         y.addBundle(2, 1, 2, 1, 2, -1);
-        best(y, 299, "1 1 1", "0 0 1");
-        BasketOffers z = basket(5, 10, 5, 20, 5, 30);
+        Tills.best(y, 299, "1 1 1", "0 0 1");
+        BasketOffers z = Tills.basket(5, 10, 5, 20, 5, 30);
         z.addBundle(5, 5, 5, 30, 1, -1);
-        best(z, 30, "0 0 0", "5 10 15");
+        Tills.best(z, 30, "0 0 0", "5 10 15");
     }
 
     private static void threshold() {
-        BasketOffers x = basket(1, 60, 2, 40);
+        BasketOffers x = Tills.basket(1, 60, 2, 40);
         x.addThreshold(101, 30, 9, -1);
-        best(x, 0, "-1 -1", "60 40");
+        Tills.best(x, 0, "-1 -1", "60 40");
         x.addThreshold(100, 20, 9, -1);
-        best(x, 20, "-1 -1", "48 32");
+        Tills.best(x, 20, "-1 -1", "48 32");
         Check.due("uses(0)", x.uses(0), 0);
         Check.due("uses(1)", x.uses(1), 1);
         x.addThreshold(1, 7, 9, -1);
-        best(x, 27, "-1 -1", "43 30");
+        Tills.best(x, 27, "-1 -1", "43 30");
         Check.due("uses(2)", x.uses(2), 1);
     }
 
     private static void thresholdsOfAGroup() {
-        BasketOffers x = basket(1, 100);
+        BasketOffers x = Tills.basket(1, 100);
         x.addThreshold(50, 10, 1, 2);
         x.addThreshold(60, 12, 1, 2);
         x.addThreshold(70, 12, 1, 2);
         x.addThreshold(101, 40, 1, 2);
         x.addThreshold(1, 1, 1, 3);
-        best(x, 13, "-1", "87");
-        Check.due("reasons", reasonsOf(x), "gugcu");
+        Tills.best(x, 13, "-1", "87");
+        Check.due("reasons", Tills.reasons(x), "gugcu");
     }
 
     private static void thresholdsInAllOrders() {
         for (int order = 0; order < 256; order++) {
-            BasketOffers x = basket(1, 1000);
+            BasketOffers x = Tills.basket(1, 1000);
             int[] amounts = {order & 3, order >> 2 & 3, order >> 4 & 3, order >> 6 & 3};
             int used = 0;
             for (int offer = 0; offer < 4; offer++) {
@@ -127,9 +127,9 @@ public final class BestSetTest {
 
     /** A till at which all was asked, and then the basket and the offers were changed. */
     private static BasketOffers asked() {
-        BasketOffers x = basket(1, 200);
+        BasketOffers x = Tills.basket(1, 200);
         x.addPercentage(1, 20, 2, -1);
-        Check.state(x);
+        LaterCalls.ASKED.on(x);
         x.put(1, 100);
         x.addPercentage(1, 30, 2, -1);
         x.takeOut(0);
@@ -137,164 +137,164 @@ public final class BestSetTest {
     }
 
     private static void thresholdAgainstItems() {
-        BasketOffers x = basket(1, 100, 2, 100);
+        BasketOffers x = Tills.basket(1, 100, 2, 100);
         x.addPercentage(1, 20, 1, -1);
         x.addThreshold(200, 19, 1, -1);
-        best(x, 20, "0 -1", "80 100");
-        Check.due("reasons", reasonsOf(x), "ub");
-        BasketOffers y = basket(1, 100, 2, 100);
+        Tills.best(x, 20, "0 -1", "80 100");
+        Check.due("reasons", Tills.reasons(x), "ub");
+        BasketOffers y = Tills.basket(1, 100, 2, 100);
         y.addPercentage(1, 20, 1, -1);
         y.addThreshold(200, 20, 1, -1);
-        best(y, 20, "0 -1", "80 100");
-        BasketOffers z = basket(1, 100, 2, 100);
+        Tills.best(y, 20, "0 -1", "80 100");
+        BasketOffers z = Tills.basket(1, 100, 2, 100);
         z.addPercentage(1, 20, 1, -1);
         z.addThreshold(200, 21, 1, -1);
-        best(z, 21, "-1 -1", "89 90");
-        Check.due("reasons", reasonsOf(z), "bu");
-        BasketOffers both = basket(1, 100, 2, 100);
+        Tills.best(z, 21, "-1 -1", "89 90");
+        Check.due("reasons", Tills.reasons(z), "bu");
+        BasketOffers both = Tills.basket(1, 100, 2, 100);
         both.addPercentage(1, 20, 1, -1);
         both.addThreshold(180, 21, 1, -1);
-        best(both, 41, "0 -1", "70 89");
+        Tills.best(both, 41, "0 -1", "70 89");
     }
 
     private static void limits() {
-        BasketOffers x = basket(1, 100, 1, 300, 1, 200);
+        BasketOffers x = Tills.basket(1, 100, 1, 300, 1, 200);
         x.addPercentage(1, 10, 2, -1);
-        best(x, 50, "-1 0 0", "100 270 180");
+        Tills.best(x, 50, "-1 0 0", "100 270 180");
         x.sell();
         x.put(1, 100);
-        best(x, 3, 0, -1, 100);
+        Tills.best(x, 3, 0, -1, 100);
         Check.due("reason(0)", x.reason(0), 'l');
         x.setCustomer(1);
-        best(x, 3, 10, 0, 90);
+        Tills.best(x, 3, 10, 0, 90);
         Check.due("reason(0)", x.reason(0), 'u');
     }
 
     private static void groups() {
-        BasketOffers x = basket(1, 100, 2, 100, 1, 50);
+        BasketOffers x = Tills.basket(1, 100, 2, 100, 1, 50);
         x.addPercentage(1, 10, 9, 0);
         x.addPercentage(2, 14, 9, 0);
         x.addPercentage(2, 5, 9, -1);
-        best(x, 20, "0 2 0", "90 95 45");
-        Check.due("reasons", reasonsOf(x), "ugu");
-        BasketOffers y = basket(1, 100, 2, 100);
+        Tills.best(x, 20, "0 2 0", "90 95 45");
+        Check.due("reasons", Tills.reasons(x), "ugu");
+        BasketOffers y = Tills.basket(1, 100, 2, 100);
         y.addPercentage(1, 10, 9, 0);
         y.addThreshold(1, 11, 9, 0);
-        best(y, 11, "-1 -1", "94 95");
-        Check.due("reasons", reasonsOf(y), "gu");
-        BasketOffers z = basket(1, 100, 2, 100);
+        Tills.best(y, 11, "-1 -1", "94 95");
+        Check.due("reasons", Tills.reasons(y), "gu");
+        BasketOffers z = Tills.basket(1, 100, 2, 100);
         z.addPercentage(1, 10, 9, 3);
         z.addPercentage(2, 10, 9, 2);
-        best(z, 20, "0 1", "90 90");
+        Tills.best(z, 20, "0 1", "90 90");
     }
 
     private static void tiesOfOffers() {
-        BasketOffers x = basket(1, 100, 1, 100);
+        BasketOffers x = Tills.basket(1, 100, 1, 100);
         x.addPercentage(1, 10, 1, -1);
         x.addPercentage(1, 10, 9, -1);
         x.addPercentage(1, 10, 9, -1);
-        best(x, 20, "0 1", "90 90");
-        BasketOffers y = basket(1, 100, 1, 100);
+        Tills.best(x, 20, "0 1", "90 90");
+        BasketOffers y = Tills.basket(1, 100, 1, 100);
         y.addFreeItem(1, 2, 9, -1);
         y.addPercentage(1, 50, 9, -1);
-        best(y, 100, "0 0", "50 50");
-        BasketOffers z = basket(1, 100, 1, 100);
+        Tills.best(y, 100, "0 0", "50 50");
+        BasketOffers z = Tills.basket(1, 100, 1, 100);
         z.addPercentage(1, 50, 9, -1);
         z.addFreeItem(1, 2, 9, -1);
-        best(z, 100, "0 0", "50 50");
-        BasketOffers g = basket(1, 100, 2, 100);
+        Tills.best(z, 100, "0 0", "50 50");
+        BasketOffers g = Tills.basket(1, 100, 2, 100);
         g.addPercentage(2, 10, 9, 1);
         g.addPercentage(1, 10, 9, 1);
-        best(g, 10, "1 -1", "90 100");
+        Tills.best(g, 10, "1 -1", "90 100");
     }
 
     private static void tiesOfItems() {
-        BasketOffers x = basket(1, 100, 2, 70, 1, 100, 2, 70, 1, 100);
+        BasketOffers x = Tills.basket(1, 100, 2, 70, 1, 100, 2, 70, 1, 100);
         x.addBundle(1, 2, -1, 100, 1, -1);
-        best(x, 70, "0 0 -1 -1 -1", "58 42 100 70 100");
-        BasketOffers y = basket(1, 100, 1, 100, 1, 100, 1, 100);
+        Tills.best(x, 70, "0 0 -1 -1 -1", "58 42 100 70 100");
+        BasketOffers y = Tills.basket(1, 100, 1, 100, 1, 100, 1, 100);
         y.addFreeItem(1, 2, 2, -1);
-        best(y, 200, "0 0 0 0", "50 50 50 50");
-        BasketOffers z = basket(1, 100, 1, 300, 1, 100, 1, 300);
+        Tills.best(y, 200, "0 0 0 0", "50 50 50 50");
+        BasketOffers z = Tills.basket(1, 100, 1, 300, 1, 100, 1, 300);
         z.addFreeItem(1, 2, 2, -1);
-        best(z, 400, "0 0 0 0", "50 150 50 150");
+        Tills.best(z, 400, "0 0 0 0", "50 150 50 150");
         Check.due("uses(0)", z.uses(0), 2);
     }
 
     private static void useBeforeNone() {
-        BasketOffers x = basket(1, 1, 1, 1);
+        BasketOffers x = Tills.basket(1, 1, 1, 1);
         x.addPercentage(1, 90, 1, -1);
-        best(x, 0, "0 -1", "1 1");
+        Tills.best(x, 0, "0 -1", "1 1");
         Check.due("uses(0)", x.uses(0), 1);
-        BasketOffers y = basket(1, 1, 1, 100);
+        BasketOffers y = Tills.basket(1, 1, 1, 100);
         y.addPercentage(1, 90, 1, -1);
-        best(y, 90, "-1 0", "1 10");
-        BasketOffers z = basket(1, 1, 2, 5);
+        Tills.best(y, 90, "-1 0", "1 10");
+        BasketOffers z = Tills.basket(1, 1, 2, 5);
         z.addPercentage(1, 90, 1, 0);
         z.addThreshold(1, 1, 1, 0);
-        best(z, 1, "-1 -1", "0 5");
+        Tills.best(z, 1, "-1 -1", "0 5");
     }
 
     private static void reasons() {
-        BasketOffers x = basket(1, 100, 2, 100);
+        BasketOffers x = Tills.basket(1, 100, 2, 100);
         x.addPercentage(3, 10, 1, -1);
         x.addFreeItem(1, 2, 1, 0);
         x.addBundle(1, 2, -1, 200, 1, -1);
         x.addThreshold(201, 5, 1, 0);
         x.addPercentage(1, 5, 1, 0);
         x.addPercentage(1, 4, 1, -1);
-        Check.due("reasons", reasonsOf(x), "cccc" + "ub");
+        Check.due("reasons", Tills.reasons(x), "cccc" + "ub");
         x.sell();
-        Check.due("reasons with an empty basket", reasonsOf(x), "cccclc");
+        Check.due("reasons with an empty basket", Tills.reasons(x), "cccclc");
         x.setCustomer(2);
-        Check.due("reasons of another customer", reasonsOf(x), "cccccc");
+        Check.due("reasons of another customer", Tills.reasons(x), "cccccc");
         x.put(1, 20);
-        Check.due("reasons with an item", reasonsOf(x), "ccccub");
+        Check.due("reasons with an item", Tills.reasons(x), "ccccub");
         x.setCustomer(0);
-        Check.due("reasons with an item", reasonsOf(x), "cccclu");
-        BasketOffers y = basket(1, 100);
+        Check.due("reasons with an item", Tills.reasons(x), "cccclu");
+        BasketOffers y = Tills.basket(1, 100);
         y.addThreshold(100, 1, 1, -1);
         y.addPercentage(1, 2, 1, -1);
-        Check.due("reasons", reasonsOf(y), "bu");
+        Check.due("reasons", Tills.reasons(y), "bu");
         y.addThreshold(100, 1, 1, 3);
         y.addThreshold(90, 1, 1, 3);
-        Check.due("reasons", reasonsOf(y), "bugu");
+        Check.due("reasons", Tills.reasons(y), "bugu");
     }
 
     private static void spreadOfUses() {
-        BasketOffers x = basket(1, 10, 2, 10, 3, 10);
+        BasketOffers x = Tills.basket(1, 10, 2, 10, 3, 10);
         x.addBundle(1, 2, 3, 10, 1, -1);
-        best(x, 20, "0 0 0", "3 3 4");
-        BasketOffers y = basket(1, 1, 2, 1000);
+        Tills.best(x, 20, "0 0 0", "3 3 4");
+        BasketOffers y = Tills.basket(1, 1, 2, 1000);
         y.addBundle(2, 1, -1, 1, 1, -1);
-        best(y, 1000, "0 0", "0 1");
-        BasketOffers z = basket(1, 1, 2, 100);
+        Tills.best(y, 1000, "0 0", "0 1");
+        BasketOffers z = Tills.basket(1, 1, 2, 100);
         z.addBundle(2, 1, -1, 50, 1, -1);
-        best(z, 51, "0 0", "0 50");
+        Tills.best(z, 51, "0 0", "0 50");
     }
 
     private static void spreadOfThresholds() {
-        BasketOffers x = basket(1, 1, 2, 100, 3, 50);
+        BasketOffers x = Tills.basket(1, 1, 2, 100, 3, 50);
         x.addBundle(2, 1, -1, 50, 1, -1);
         x.addThreshold(100, 33, 1, -1);
-        best(x, 84, "0 0 -1", "0 33 34");
-        BasketOffers y = basket(1, 50, 2, 50, 3, 50);
+        Tills.best(x, 84, "0 0 -1", "0 33 34");
+        BasketOffers y = Tills.basket(1, 50, 2, 50, 3, 50);
         y.addThreshold(100, 10, 1, -1);
         y.addThreshold(100, 10, 1, -1);
-        best(y, 20, "-1 -1 -1", "43 43 44");
+        Tills.best(y, 20, "-1 -1 -1", "43 43 44");
     }
 
     private static void moreThanAll() {
-        BasketOffers x = basket(1, 30, 2, 20);
+        BasketOffers x = Tills.basket(1, 30, 2, 20);
         x.addThreshold(50, 49, 1, -1);
-        best(x, 49, "-1 -1", "0 1");
+        Tills.best(x, 49, "-1 -1", "0 1");
         x.addThreshold(10, 1, 1, -1);
-        best(x, 50, "-1 -1", "0 0");
+        Tills.best(x, 50, "-1 -1", "0 0");
         x.addThreshold(10, 9999, 1, -1);
-        best(x, 10049, "-1 -1", "0 0");
+        Tills.best(x, 10049, "-1 -1", "0 0");
         Check.due("toPay()", x.toPay(), 0);
         x.addPercentage(1, 10, 1, -1);
-        best(x, 10049, "-1 -1", "0 0");
+        Tills.best(x, 10049, "-1 -1", "0 0");
         BasketOffers dear = new BasketOffers();
         for (int i = 0; i < 7; i++) {
             dear.put(i, 9999);
@@ -302,11 +302,11 @@ public final class BestSetTest {
         for (int i = 0; i < 6; i++) {
             dear.addThreshold(9999, 9999, 1, -1);
         }
-        best(dear, 59994, "-1 -1 -1 -1 -1 -1 -1", "1428 1428 1428 1428 1429 1429 1429");
+        Tills.best(dear, 59994, "-1 -1 -1 -1 -1 -1 -1", "1428 1428 1428 1428 1429 1429 1429");
     }
 
     private static void manyItems() {
-        BasketOffers x = basket(1, 100, 1, 100, 1, 100, 1, 100, 1, 100);
+        BasketOffers x = Tills.basket(1, 100, 1, 100, 1, 100, 1, 100, 1, 100);
         x.addFreeItem(1, 3, 9, -1);
         x.addFreeItem(1, 2, 9, -1);
         Check.due("bestByTrying() of 5 items", x.bestByTrying(), 200);
@@ -340,7 +340,7 @@ public final class BestSetTest {
     }
 
     private static BasketOffers six() {
-        BasketOffers x = basket(1, 10, 1, 20, 1, 30, 1, 40, 2, 50, 2, 60);
+        BasketOffers x = Tills.basket(1, 10, 1, 20, 1, 30, 1, 40, 2, 50, 2, 60);
         x.addFreeItem(1, 2, 2, -1);
         return x;
     }
@@ -349,49 +349,5 @@ public final class BestSetTest {
         BasketOffers x = six();
         x.sell();
         return x;
-    }
-
-    private static BasketOffers basket(int... kindsAndPrices) {
-        BasketOffers x = new BasketOffers();
-        for (int i = 0; i < kindsAndPrices.length; i += 2) {
-            x.put(kindsAndPrices[i], kindsAndPrices[i + 1]);
-        }
-        return x;
-    }
-
-    /** The best set of a basket whose items are numbered from 0. */
-    private static void best(BasketOffers x, int discount, String offers, String nets) {
-        Check.due("bestDiscount()", x.bestDiscount(), discount);
-        if (x.items() <= 5) {
-            Check.due("bestByTrying()", x.bestByTrying(), discount);
-        }
-        StringBuilder offersGot = new StringBuilder();
-        StringBuilder netsGot = new StringBuilder();
-        int toPay = 0;
-        for (int item = 0; item < x.items(); item++) {
-            offersGot.append(item > 0 ? " " : "").append(x.offerOf(item));
-            netsGot.append(item > 0 ? " " : "").append(x.netPrice(item));
-            toPay += x.netPrice(item);
-        }
-        Check.due("offerOf() of all items", offersGot.toString(), offers);
-        Check.due("netPrice() of all items", netsGot.toString(), nets);
-        Check.due("toPay()", x.toPay(), toPay);
-    }
-
-    /** The best set of a basket with one item. */
-    private static void best(BasketOffers x, int item, int discount, int offer, int net) {
-        Check.due("bestDiscount()", x.bestDiscount(), discount);
-        Check.due("bestByTrying()", x.bestByTrying(), discount);
-        Check.due("offerOf(" + item + ")", x.offerOf(item), offer);
-        Check.due("netPrice(" + item + ")", x.netPrice(item), net);
-        Check.due("toPay()", x.toPay(), net);
-    }
-
-    private static String reasonsOf(BasketOffers x) {
-        StringBuilder text = new StringBuilder();
-        for (int offer = 0; offer < x.offers(); offer++) {
-            text.append(x.reason(offer));
-        }
-        return text.toString();
     }
 }

@@ -27,40 +27,22 @@ final class Check {
         }
     }
 
-    /** The call throws just this exception on a new till, and changes nothing. */
+    /** The call throws just this exception on a new till, and changes nothing that any later call answers. */
     static void refuses(Supplier<BasketOffers> made, String name, Class<? extends RuntimeException> kind, Call call) {
-        BasketOffers till = made.get();
-        due(name, answer(till, call), "throws." + kind.getSimpleName());
-        due("the state after " + name, state(till), state(made.get()));
+        for (LaterCalls later : LaterCalls.values()) {
+            refusesBefore(made, name, kind, call, later);
+        }
+        BasketOffers asked = made.get();
+        int discount = asked.bestDiscount();
+        due(name + " after bestDiscount()", answer(asked, call), "throws." + kind.getSimpleName());
+        due("bestDiscount() again after " + name, asked.bestDiscount(), discount);
     }
 
-    /** All that a till answers without a change, with every customer at it. */
-    static String state(BasketOffers till) {
-        StringBuilder text = new StringBuilder();
-        int atTill = till.setCustomer(0);
-        text.append("customer ").append(atTill);
-        text.append(" items ").append(till.items()).append(" sum ").append(till.sum());
-        text.append(" offers ").append(till.offers());
-        text.append(" uses ").append(till.usesInAll()).append(" turnover ").append(till.turnover());
-        text.append(" share ").append(answer(till, BasketOffers::discountShare));
-        text.append(" mean ").append(answer(till, BasketOffers::meanNetPrice));
-        for (int customer = 0; customer < 4; customer++) {
-            till.setCustomer(customer);
-            text.append("\n  for ").append(customer).append(": ").append(till.bestDiscount());
-            text.append(' ').append(answer(till, BasketOffers::bestByTrying)).append(' ').append(till.toPay());
-            for (int offer = 0; offer < till.offers(); offer++) {
-                text.append(" o").append(offer).append(' ').append(till.left(offer));
-                text.append(' ').append(till.uses(offer)).append(till.reason(offer));
-            }
-            for (int item = 0; item < 60; item++) {
-                int number = item;
-                text.append(" i").append(answer(till, x -> x.offerOf(number)));
-                text.append(' ').append(answer(till, x -> x.netPrice(number)));
-                text.append(' ').append(answer(till, x -> x.soldTo(number)));
-            }
-        }
-        till.setCustomer(atTill);
-        return text.toString();
+    private static void refusesBefore(Supplier<BasketOffers> made, String name, Class<? extends RuntimeException> kind,
+            Call call, LaterCalls later) {
+        BasketOffers till = made.get();
+        due(name, answer(till, call), "throws." + kind.getSimpleName());
+        due(later + " after " + name, later.on(till), later.on(made.get()));
     }
 
     /** Ends a test's run. */

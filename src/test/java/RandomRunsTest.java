@@ -1,8 +1,11 @@
 import java.util.List;
 import java.util.Random;
 
-/** All promises: runs of many calls, each of which must answer as the reference does. */
+/** All promises: runs of the 512 calls that a till is promised to answer, each of which must be as the reference's. */
 public final class RandomRunsTest {
+    private static final int MOST_CALLS = 512;
+    private static final int MOST_STEPS = 2000;
+
     private interface Both {
         Object on(BasketOffers till, Reference reference, boolean real);
     }
@@ -12,9 +15,11 @@ public final class RandomRunsTest {
     private final int topPrice;
     private final int mostItems;
     private final boolean manyThresholds;
+    private final int stepsBetweenAsking;
     private final BasketOffers till = new BasketOffers();
     private final Reference reference = new Reference();
     private final StringBuilder calls = new StringBuilder();
+    private int callsMade;
     private boolean right = true;
 
     private RandomRunsTest(int seed) {
@@ -23,6 +28,7 @@ public final class RandomRunsTest {
         topPrice = new int[] {3, 12, 200, 9999}[random.nextInt(4)];
         mostItems = random.nextInt(4) == 0 ? 7 : kinds == 1 ? 5 : 6;
         manyThresholds = random.nextInt(4) == 0;
+        stepsBetweenAsking = new int[] {1, 2, 4, 40}[random.nextInt(4)];
     }
 
     public static void main(String[] args) {
@@ -35,12 +41,13 @@ public final class RandomRunsTest {
 
     private void run(int seed) {
         int offers = 1 + random.nextInt(6);
-        for (int call = 0; call < 70 && right; call++) {
-            if (call < 4 || random.nextInt(12) == 0 && till.offers() < offers) {
+        for (int step = 0; step < MOST_STEPS && callsMade < MOST_CALLS && right; step++) {
+            if (step < 4 || random.nextInt(12) == 0 && reference.offers() < offers) {
                 addOffer();
-            } else if (random.nextInt(3) == 0) {
-                changeBasket();
             } else {
+                changeBasket();
+            }
+            if (random.nextInt(stepsBetweenAsking) == 0) {
                 ask();
             }
         }
@@ -50,6 +57,10 @@ public final class RandomRunsTest {
     }
 
     private void same(String name, Both call) {
+        if (callsMade >= MOST_CALLS) {
+            return;
+        }
+        callsMade++;
         Object got = answer(call, true);
         Object want = answer(call, false);
         calls.append(' ').append(name);
@@ -106,7 +117,7 @@ public final class RandomRunsTest {
 
     private void changeBasket() {
         int what = random.nextInt(20);
-        if (what < 12 && till.items() < mostItems || what == 0) {
+        if (what < 12 && reference.items() < mostItems || what == 0) {
             int kind = number(0, kinds - 1);
             int price = number(1, topPrice);
             same("put(" + kind + ", " + price + ")", (x, y, real) -> real ? x.put(kind, price) : y.put(kind, price));
@@ -126,7 +137,9 @@ public final class RandomRunsTest {
     }
 
     private int anItem() {
-        return number(0, 20);
+        List<Integer> inBasket = reference.numbersInBasket();
+        boolean fromBasket = !inBasket.isEmpty() && random.nextBoolean();
+        return fromBasket ? inBasket.get(random.nextInt(inBasket.size())) : number(0, reference.numbersGiven());
     }
 
     /** The first call after a change must not need another one before it. */
@@ -160,14 +173,16 @@ public final class RandomRunsTest {
         for (int item : List.of(anItem(), anItem(), -1)) {
             same("soldTo(" + item + ")", (x, y, real) -> real ? x.soldTo(item) : y.soldTo(item));
         }
-        for (int offer = -1; offer <= till.offers(); offer++) {
+        for (int offer = -1; offer <= reference.offers(); offer++) {
             int o = offer;
             same("left(" + o + ")", (x, y, real) -> real ? x.left(o) : y.left(o));
             same("uses(" + o + ")", (x, y, real) -> real ? x.uses(o) : y.uses(o));
             same("reason(" + o + ")", (x, y, real) -> real ? (Object) x.reason(o) : (Object) y.reason(o));
         }
-        for (int number = -1; number <= 60; number++) {
-            int item = number;
+        List<Integer> numbers = reference.numbersInBasket();
+        numbers.add(anItem());
+        numbers.add(-1);
+        for (int item : numbers) {
             same("offerOf(" + item + ")", (x, y, real) -> real ? x.offerOf(item) : y.offerOf(item));
             same("netPrice(" + item + ")", (x, y, real) -> real ? x.netPrice(item) : y.netPrice(item));
         }

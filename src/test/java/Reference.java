@@ -64,6 +64,14 @@ final class Reference {
         return basket.size();
     }
 
+    List<Integer> numbersInBasket() {
+        return new ArrayList<>(basket.keySet());
+    }
+
+    int numbersGiven() {
+        return given;
+    }
+
     int sum() {
         return basket.values().stream().mapToInt(Item::price).sum();
     }
