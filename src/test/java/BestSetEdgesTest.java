@@ -10,7 +10,9 @@ public final class BestSetEdgesTest {
         fullBasketWithoutOffers();
         fullBasketOfOneKind();
         fullBasketForEachOffer();
+        mostWaysToUse();
         allSixOffersUsed();
+        askingChangesNothing();
         tryingUpToFive();
         noItemTwice();
         leftForTheCustomer();
@@ -116,6 +118,20 @@ public final class BestSetEdgesTest {
         Check.due("uses of six offers", Tills.uses(x), "000002");
     }
 
+    /** Six offers that can each take any three of seven items: the last offer with the last items is the best. */
+    private static void mostWaysToUse() {
+        BasketOffers x = Tills.basket(1, 10, 1, 11, 1, 12, 1, 13, 1, 20, 1, 21, 1, 22);
+        for (int offer = 0; offer < 6; offer++) {
+            x.addBundle(1, 1, 1, 9 - offer, 1, 0);
+        }
+        Tills.best(x, 59, "-1 -1 -1 -1 5 5 5", "10 11 12 13 1 1 2");
+        BasketOffers y = Tills.basket(1, 10, 1, 11, 1, 12, 1, 13, 1, 20, 1, 21, 1, 22);
+        for (int offer = 0; offer < 6; offer++) {
+            y.addFreeItem(1, 3, 9, -1);
+        }
+        Tills.best(y, 31, "-1 0 0 0 0 0 0", "10 7 8 10 13 14 16");
+    }
+
     private static void allSixOffersUsed() {
         BasketOffers x = Tills.basket(0, 10, 1, 10, 2, 10, 3, 10, 4, 10, 5, 10, 6, 10);
         for (int kind = 5; kind >= 0; kind--) {
@@ -138,6 +154,32 @@ public final class BestSetEdgesTest {
         z.addPercentage(1, 10, 1, -1);
         Tills.best(z, 45, "5 -1", "73 82");
         Check.due("uses of six", Tills.uses(z), "111111");
+    }
+
+    /** "items are put into the basket, ... and all other calls ask": they change nothing. */
+    private static void askingChangesNothing() {
+        for (LaterCalls later : LaterCalls.values()) {
+            BasketOffers x = oneLeft();
+            for (int time = 0; time < 3; time++) {
+                x.items();
+                x.sum();
+                x.left(0);
+                x.offers();
+                x.bestDiscount();
+                x.bestByTrying();
+                x.offerOf(3);
+                x.uses(0);
+                x.reason(0);
+                x.netPrice(3);
+                x.toPay();
+                x.soldTo(0);
+                x.usesInAll();
+                x.turnover();
+                x.discountShare();
+                x.meanNetPrice();
+            }
+            Check.due(later + " after all was asked", later.on(x), later.on(oneLeft()));
+        }
     }
 
     /** bestByTrying throws UnsupportedOperationException "if there are more than 5 items in the basket" */
@@ -311,7 +353,7 @@ public final class BestSetEdgesTest {
         Check.due("toPay() then", x.toPay(), 500);
     }
 
-    /** "the ones with the greatest discounts that can be used together; of several offers of a group ..., the lowest" */
+    /** "the ones with the greatest discounts that can be used together; of several offers of a group ... the lowest" */
     private static void thresholdsTogether() {
         BasketOffers x = Tills.basket(1, 100);
         x.addThreshold(1, 5, 1, 0);

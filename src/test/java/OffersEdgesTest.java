@@ -150,7 +150,7 @@ public final class OffersEdgesTest {
         }
     }
 
-    /** "the price times the percentage, divided by 100, rounded down": 1 and 90 percent of the least and greatest price */
+    /** "the price times the percentage, divided by 100, rounded down": 1 and 90 percent of 1 and 9999 */
     private static void percentages() {
         int[][] due = {{1, 1, 0}, {99, 1, 0}, {100, 1, 1}, {199, 1, 1}, {200, 1, 2}, {9999, 1, 99}, {1, 90, 0},
             {2, 90, 1}, {10, 90, 9}, {9999, 90, 8999}, {9998, 90, 8998}, {3, 33, 0}, {3, 34, 1}};
@@ -250,7 +250,7 @@ public final class OffersEdgesTest {
         }
     }
 
-    /** "one item of each of its kinds, which can be alike, so that it uses as many items of a kind as it has this kind" */
+    /** Kinds "which can be alike, so that it uses as many items of a kind as it has this kind" */
     private static void bundlesOfAlikeKinds() {
         int[][] bundles = {{1, 1, -1}, {1, 1, 2}, {1, 2, 1}, {2, 1, 1}, {1, 1, 1}};
         for (int[] b : bundles) {
